@@ -439,7 +439,7 @@ public final class MixBooth {
         redoLog();
         return night.fingerprint() == nightAgain.fingerprint()
                 && night.placesAreSound()
-                && night.floor.isSound()
+                && night.floor.isInBounds()
                 && rowsAreSound();
     }
 
@@ -522,8 +522,8 @@ public final class MixBooth {
         return true;
     }
 
-    // The other night only takes the acts that are new since the last time: it never does anything
-    // but the log from its first act on, so it stands where one that begins anew would stand.
+    // The other night does nothing but the acts of the log, each once, from the first one on. So it
+    // stands where a night that begins anew would stand, and only new acts cost time and room.
     private void redoLog() {
         for (; redone < log.acts; redone++) {
             int a = log.numberAt(redone, 1);
@@ -725,8 +725,8 @@ public final class MixBooth {
             }
         }
 
-        // The channel is left out: only its fader is moved by moves, and that never decides
-        // whether a later one can be done.
+        // The channel is left out: moves touch its fader alone, which never decides whether a
+        // later move can be done.
         void copyFrom(Deck other) {
             disc = other.disc;
             place = other.place;
@@ -921,17 +921,22 @@ public final class MixBooth {
             return pitch;
         }
 
-        private int nearestPitch(int pace) {
+        // Pitches are tried from the lowest on, so of two that are as near the lower one stays.
+        private int nearestPitch(int goal) {
             int best = -MOST_PITCH;
-            int least = Integer.MAX_VALUE;
-            for (int tried = -MOST_PITCH; disc != null && tried <= MOST_PITCH; tried++) {
-                int off = Math.abs(disc.tempo * (1000 + tried) - pace);
+            int least = paceOff(best, goal);
+            for (int tried = best + 1; tried <= MOST_PITCH; tried++) {
+                int off = paceOff(tried, goal);
                 if (off < least) {
                     least = off;
                     best = tried;
                 }
             }
             return best;
+        }
+
+        private int paceOff(int triedPitch, int goal) {
+            return disc == null ? 0 : Math.abs(disc.tempo * (1000 + triedPitch) - goal);
         }
 
         int listenTo(Deck other, int rounds) {
@@ -1104,7 +1109,7 @@ public final class MixBooth {
             return sum;
         }
 
-        boolean isSound() {
+        boolean isInBounds() {
             for (int i = 0; i < sizes.length; i++) {
                 if (sizes[i] < 0 || sizes[i] > MOST_PEOPLE) {
                     return false;
@@ -1148,7 +1153,9 @@ public final class MixBooth {
             if (dislike == NOTHING_HEARD) {
                 size--;
             } else if (dislike <= 2) {
-                size += isBannedHeard || size >= MOST_PEOPLE ? 0 : 1;
+                if (!isBannedHeard && size < MOST_PEOPLE) {
+                    size++;
+                }
                 tired += 2;
             } else if (dislike >= 6) {
                 size--;
@@ -1392,27 +1399,34 @@ public final class MixBooth {
         boolean look(Disc from, int newDepth) {
             depth = newDepth;
             isFound = false;
-            lengthen(this, from, 0, 0, 0);
+            lengthen(this, from, 0, wantedDiscs(), 0);
             return isFound;
         }
 
         // Rows come in the order of their numbers, so only a cheaper one takes the place of another.
-        private static void lengthen(Search search, Disc last, int length, int taken, int soFar) {
+        private static void lengthen(Search search, Disc last, int length, int left, int soFar) {
             if (length >= search.depth || length < 0 || length >= search.row.length) {
                 search.keepIfCheaper(soFar);
                 return;
             }
             for (int i = 0; i < search.night.discCount; i++) {
                 Disc disc = search.night.discAt(i);
-                if (disc != null && (taken >> i & 1) == 0 && search.isWanted(disc)) {
+                if (disc != null && (left >> i & 1) == 1) {
                     search.row[length] = i;
-                    lengthen(search, disc, length + 1, taken | 1 << i, soFar + last.stepCost(disc));
+                    lengthen(search, disc, length + 1, left & ~(1 << i), soFar + last.stepCost(disc));
                 }
             }
         }
 
-        private boolean isWanted(Disc disc) {
-            return !disc.banned && disc.wholeSeconds() < PLAYED_OUT && !night.isOnDeck(disc);
+        private int wantedDiscs() {
+            int wanted = 0;
+            for (int i = 0; i < night.discCount; i++) {
+                Disc disc = night.discAt(i);
+                if (disc != null && !disc.banned && disc.wholeSeconds() < PLAYED_OUT && !night.isOnDeck(disc)) {
+                    wanted |= 1 << i;
+                }
+            }
+            return wanted;
         }
 
         private void keepIfCheaper(int total) {

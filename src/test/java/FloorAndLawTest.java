@@ -223,6 +223,17 @@ public final class FloorAndLawTest {
         x.stop(0);
         x.go(91);
         c.is("42: 90 in a second is cut to 0", 2, x::breaches);
+        x.play(0);
+        x.setBand(0, 0, 30);
+        x.setBand(0, 1, 0);
+        x.setBand(0, 2, 0);
+        x.go(99);
+        x.stop(0);
+        x.go(1);
+        c.is("42: 99 in a second is cut to 0, too", 2, x::breaches);
+        x.play(0);
+        x.go(100);
+        c.is("42: 100 in a second is above 0", 3, x::breaches);
         c.is("41: the most", 0, () -> x.setLimit(0, 2000));
         c.refused("41: no such limit", WRONG, () -> x.setLimit(4, 0));
         c.refused("41: no such limit", WRONG, () -> x.setLimit(-1, 0));

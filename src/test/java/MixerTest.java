@@ -93,6 +93,13 @@ public final class MixerTest {
                 c.is("26: side " + sides[s] + " at " + crosses[k], due[s][k], () -> x.level(0));
             }
         }
+        x.setFader(0, 100);
+        x.setSide(0, 'r');
+        x.setCross(-1);
+        c.is("26: r, just below 0", 99, () -> x.level(0));
+        x.setSide(0, 'l');
+        x.setCross(1);
+        c.is("26: l, just above 0", 99, () -> x.level(0));
         x.stop(0);
         c.is("26: it is stopped", 0, () -> x.level(0));
         c.is("26: an empty deck", 0, () -> x.level(1));

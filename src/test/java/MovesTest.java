@@ -133,6 +133,14 @@ public final class MovesTest {
         Booths.perform(x, "Ak");
         c.is("49: off", false, () -> x.slip(0, false));
         c.is("49: back", 12000000, () -> x.place(0));
+        Booths.perform(x, "Ak");
+        x.jump(0, 99);
+        c.is("49: a loop from where slip ends", 2, () -> Booths.perform(x, "Akl6"));
+        Booths.perform(x, "Ax");
+        x.jump(0, 99);
+        Booths.perform(x, "Ak");
+        x.jump(0, 0);
+        undone(c, x, "Al6kl1", 4, 'l', 0);
     }
 
     private static void decks(Checks c) {
