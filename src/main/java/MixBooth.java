@@ -854,7 +854,8 @@ public final class MixBooth {
             if (slipping) {
                 slipPlace = Math.min(slipPlace + step, last);
             }
-            if (place >= last) {
+            // The last place is one unit ahead of the end: a deck that comes exactly there plays on.
+            if (place > last) {
                 place = last;
                 halt();
             }
@@ -1607,6 +1608,9 @@ public final class MixBooth {
                 deck.channel.slide(Math.min(100, 11 * digit));
                 return DONE;
             }
+            if (sign == 'x') {
+                return deck.leaveLoop() ? DONE : 'i';
+            }
             return deck.disc == null ? 'e' : doOnDisc(deck, sign, digit);
         }
 
@@ -1619,7 +1623,6 @@ public final class MixBooth {
                 case '-': deck.push(-10 * digit); return DONE;
                 case 'k': deck.turnSlip(!deck.slipping); return DONE;
                 case 'c': return deck.jumpToCue(digit) ? DONE : 'c';
-                case 'x': return deck.leaveLoop() ? DONE : 'i';
                 default: break;
             }
             if (!deck.hasRoomFor(digit)) {

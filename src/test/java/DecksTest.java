@@ -14,6 +14,8 @@ public final class DecksTest {
         Checks c = new Checks("DecksTest");
         load(c);
         loadTakesAllOff(c);
+        atLastPlace(c);
+        loopAtLastPlace(c);
         play(c);
         stop(c);
         setPitch(c);
@@ -73,6 +75,47 @@ public final class DecksTest {
         c.is("7: effects stay", 1, () -> x.dropEffects(0));
         c.refused("7: no cue", EMPTY, () -> Booths.perform(x, "Ac2"));
         c.is("7: no cue", 'c', () -> x.cause(1));
+    }
+
+    /** A deck that stood at its last place and goes so many beats again comes exactly there by its steps. */
+    private static MixBooth aheadOfLastPlace(int beats) {
+        MixBooth x = Booths.playing();
+        x.jump(0, 99);
+        x.go(60);
+        x.skip(0, beats);
+        x.play(0);
+        return x;
+    }
+
+    private static void atLastPlace(Checks c) {
+        MixBooth x = aheadOfLastPlace(4);
+        x.go(200);
+        c.is("7: exactly at the last place", 100 * BEAT - 1, () -> x.place(0));
+        c.is("20: which is not the end yet", true, () -> x.plays(0));
+        c.refused("7: it still plays there", EMPTY, () -> x.load(0, 0));
+        c.is("26: with its level", 100, () -> x.level(0));
+        c.is("32: it is heard", 400, x::heard);
+        c.is("8: it does not begin there", false, () -> x.play(0));
+        c.is("30: the next tick stops it", 1, () -> x.go(1));
+        c.is("18: at the last place", 100 * BEAT - 1, () -> x.place(0));
+        c.is("20: it stands", false, () -> x.plays(0));
+        c.is("7: a record comes onto it", 0, () -> x.load(0, 0));
+        MixBooth y = aheadOfLastPlace(1);
+        y.go(50);
+        y.stop(0);
+        c.is("8: nor from a stop there", false, () -> y.play(0));
+    }
+
+    private static void loopAtLastPlace(Checks c) {
+        MixBooth x = aheadOfLastPlace(2);
+        x.go(50);
+        c.is("15: a loop that ends with the record", 100, () -> x.loop(0, 1));
+        x.go(50);
+        c.is("15: ahead of its end", 100 * BEAT - 1, () -> x.place(0));
+        c.is("15: the deck plays", true, () -> x.plays(0));
+        x.go(1);
+        c.is("15: and goes round", 98 * BEAT + 1199999, () -> x.place(0));
+        c.is("15: it plays on", true, () -> x.plays(0));
     }
 
     private static void play(Checks c) {

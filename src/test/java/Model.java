@@ -565,7 +565,7 @@ public final class Model {
             d.plays = false;
             d.brakes = false;
         }
-        if (d.place >= end(d) - 1) {
+        if (d.place >= end(d)) {
             d.place = end(d) - 1;
             d.plays = false;
             d.brakes = false;
@@ -918,6 +918,11 @@ public final class Model {
             d.fader = Math.min(100, digit * 11);
             return 0;
         }
+        if (c == 'x') {
+            boolean wasOn = d.loops;
+            d.loops = false;
+            return wasOn ? 0 : 'i';
+        }
         if (d.rec < 0) {
             return 'e';
         }
@@ -937,11 +942,6 @@ public final class Model {
                 return 'l';
             }
             loopNow(d, digit);
-        } else if (c == 'x') {
-            if (!d.loops) {
-                return 'i';
-            }
-            d.loops = false;
         } else if (c == 'k') {
             slipNow(d, !d.slips);
         } else {

@@ -254,10 +254,16 @@ public final class MovesTest {
     }
 
     private static void emptyDecks(Checks c) {
-        String[] moves = {"p", "b", "c0", "m0", "l0", "x", "+1", "-1", "k"};
+        String[] moves = {"p", "b", "c0", "m0", "l0", "+1", "-1", "k"};
         for (String move : moves) {
             undone(c, new MixBooth(), "D" + move, 1, 'e', 3);
         }
+        undone(c, new MixBooth(), "Ax", 1, 'i', 0);
+        undone(c, new MixBooth(), "ADsx", 3, 'i', 3);
+        MixBooth lost = Booths.withOne();
+        lost.loop(0, 0);
+        lost.loseStick(0);
+        undone(c, lost, "Ax", 1, 'i', 0);
         MixBooth x = new MixBooth();
         c.is("49: s and f can always be done", 2, () -> Booths.perform(x, "Bsf5"));
         c.is("49: the fader of an empty deck", 55, () -> x.setFader(1, 0));
