@@ -361,6 +361,11 @@ public final class EndsTest {
         x.play(0);
         x.go(6);
         c.is("11: one slow tick is left", -1, () -> x.nudge(0, 0));
+        x.jump(0, 99);
+        x.nudge(0, 200);
+        x.go(100);
+        c.is("20: it has stopped at its end, behind 46 ticks", false, () -> x.plays(0));
+        c.is("11: those in which it played are gone", 154, () -> x.nudge(0, 0));
     }
 
     private static void endOfBrake(Checks c) {
@@ -384,6 +389,24 @@ public final class EndsTest {
         x.go(1);
         c.is("8: and takes the brake off", due + STEP, () -> x.place(0));
         c.is("54: a brake on a deck that stands is an act, too", true, () -> x.logged() > 60);
+        brakeLeaves(c);
+    }
+
+    private static void brakeLeaves(Checks c) {
+        MixBooth x = standing();
+        x.play(0);
+        x.loop(0, 1);
+        x.slip(0, true);
+        x.jump(0, 1);
+        x.nudge(0, -70);
+        x.brake(0);
+        x.go(60);
+        long slow = 10 * (1080000 / 2 + 1080000 / 4 + 1080000 / 8 + 1080000 / 16 + 1080000 / 32);
+        c.is("12: it stands", BEAT + slow, () -> x.place(0));
+        c.is("11: 50 ticks of the nudge are gone", -20, () -> x.nudge(0, 0));
+        c.is("16: the loop is still on", true, () -> x.out(0));
+        c.is("17: slip is still on", true, () -> x.slip(0, false));
+        c.is("17: its second place braked, too", slow, () -> x.place(0));
     }
 
     private static void brakeFromBeginning(Checks c) {
@@ -542,6 +565,13 @@ public final class EndsTest {
         c.is("52: a beat back", STEP, () -> x.skip(0, 1));
         Booths.toLastPlace(x, 0);
         c.is("52: from the last place", LAST - 32 * BEAT, () -> x.skip(0, 32));
+        x.jump(0, 20);
+        x.loop(0, 2);
+        x.jump(0, 22);
+        c.is("52: a needle jumps out of a loop", 15 * BEAT, () -> x.skip(0, 7));
+        x.play(0);
+        x.go(1);
+        c.is("15: a place ahead of the loop is none at its end", 15 * BEAT + STEP, () -> x.place(0));
     }
 
     private static void stickAtLastPlace(Checks c) {

@@ -151,6 +151,21 @@ public final class FloorAndLawTest {
         y.ban(0, true);
         y.go(100);
         c.is("38: people leave a banned one, too", 19, () -> y.people(0));
+        MixBooth z = dance(3, 3);
+        z.go(400);
+        c.is("39: 1 more tired a second", 4, () -> z.tired(0));
+        z.ban(0, true);
+        z.go(100);
+        c.is("38: nobody leaves because of a ban", 20, () -> z.people(0));
+        c.is("39: it is 1 more tired, too", 5, () -> z.tired(0));
+        z.addRecord(600, 99, 6, 9, 8, 0, 0);
+        z.stop(0);
+        z.load(0, 1);
+        z.ban(1, true);
+        z.play(0);
+        z.go(100);
+        c.is("38: 1 leaves", 19, () -> z.people(0));
+        c.is("39: it is 3 less tired, too", 2, () -> z.tired(0));
     }
 
     private static void groups(Checks c) {

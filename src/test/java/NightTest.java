@@ -122,6 +122,12 @@ public final class NightTest {
         x.setFader(0, 29);
         x.go(10);
         c.is("34: one is not heard", 20, () -> x.clashes('b'));
+        x.setFader(0, 30);
+        x.load(2, 0);
+        x.setFader(2, 100);
+        x.play(2);
+        x.go(5);
+        c.is("34: three clash once", 25, () -> x.clashes('b'));
     }
 
     private static void phrases(Checks c) {

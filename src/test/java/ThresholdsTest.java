@@ -389,6 +389,14 @@ public final class ThresholdsTest {
             x.setBand(1, band, 0);
         }
         c.is("44: heard with the loudness 0", 1, x::light);
+        MixBooth y = decks(2);
+        y.setFader(0, 40);
+        y.setFader(1, 39);
+        y.addEffect(1, 'e', 100);
+        y.go(1);
+        y.jump(1, 5);
+        c.is("29: a tail of nearly the same again", true, () -> y.tail(1, 0) > 100);
+        c.is("44: the tail is none of the deck's loudness", 0, y::light);
     }
 
     private static void leastRows(Checks c) {
