@@ -10,8 +10,6 @@ import java.util.List;
 import java.util.regex.Matcher;
 import java.util.regex.Pattern;
 import java.util.stream.Stream;
-import javax.tools.JavaCompiler;
-import javax.tools.ToolProvider;
 
 /** README.md: its example compiles and answers what it tells behind each call, and it names all tests. */
 public final class ReadmeTest {
@@ -48,10 +46,10 @@ public final class ReadmeTest {
             file.toFile().deleteOnExit();
             place.resolve("Example.class").toFile().deleteOnExit();
             String classes = System.getProperty("java.class.path");
-            JavaCompiler compiler = ToolProvider.getSystemJavaCompiler();
-            int result = compiler.run(null, null, null, "-cp", classes, "-d", place.toString(), file.toString());
+            int result = new ProcessBuilder("javac", "-cp", classes, "-d", place.toString(), file.toString())
+                    .inheritIO().start().waitFor();
             return result == 0 ? run(place) : "does not compile";
-        } catch (IOException | ReflectiveOperationException e) {
+        } catch (IOException | InterruptedException | ReflectiveOperationException e) {
             return e.toString();
         }
     }
